@@ -167,7 +167,7 @@ public final class ThumbBallot {
 
     public boolean lift(int row, int column) {
         int cell = cellAt(row, column);
-        if (cell == NONE || now.canton.depth(cell) == 0) {
+        if (!now.canton.marked(cell)) {
             return false;
         }
         steps.keep(now.canton);
@@ -253,7 +253,7 @@ public final class ThumbBallot {
         if (cell == NONE || what < 0 || what > 4) {
             return NONE - 1;
         }
-        boolean bare = now.canton.depth(cell) == 0;
+        boolean bare = !now.canton.marked(cell);
         switch (what) {
             case 0:
                 return now.canton.owner(cell);
@@ -643,6 +643,10 @@ public final class ThumbBallot {
             return cell >= 0 && cell < CELLS ? marks[cell] : 0;
         }
 
+        boolean marked(int cell) {
+            return cell >= 0 && cell < CELLS && marks[cell] != 0;
+        }
+
         int depth(int cell) {
             return Math.abs(mark(cell)) & 15;
         }
@@ -669,7 +673,7 @@ public final class ThumbBallot {
         }
 
         void thinMark(int cell) {
-            if (depth(cell) > 1) {
+            if (marked(cell) && depth(cell) > 1) {
                 marks[cell] -= way(cell);
             }
         }
@@ -688,10 +692,10 @@ public final class ThumbBallot {
 
         int besides(int cell) {
             int column = cell % SIDE;
-            int count = mark(cell + SIDE) != 0 ? 1 : 0;
-            count += mark(cell - SIDE) != 0 ? 1 : 0;
-            count += column > 0 && mark(cell - 1) != 0 ? 1 : 0;
-            count += column < SIDE - 1 && mark(cell + 1) != 0 ? 1 : 0;
+            int count = marked(cell + SIDE) ? 1 : 0;
+            count += marked(cell - SIDE) ? 1 : 0;
+            count += column > 0 && marked(cell - 1) ? 1 : 0;
+            count += column < SIDE - 1 && marked(cell + 1) ? 1 : 0;
             return count;
         }
 
@@ -952,7 +956,7 @@ public final class ThumbBallot {
         int sum() {
             int sum = 0;
             for (int cell = 0; cell < CELLS; cell++) {
-                if (canton.depth(cell) > 0) {
+                if (canton.marked(cell)) {
                     sum += canton.way(cell) * weighs(cell);
                 }
             }
@@ -964,10 +968,10 @@ public final class ThumbBallot {
             Arrays.fill(heavy, 0);
             int sum = 0;
             for (int cell = 0; cell < CELLS; cell++) {
-                if (canton.depth(cell) > 0) {
+                if (canton.marked(cell)) {
                     int weight = weighs(cell);
                     sum += canton.way(cell) * weight;
-                    if (canton.way(cell) < 0 && weight < heavy.length) {
+                    if (canton.way(cell) < 0 && weight >= 0 && weight < heavy.length) {
                         heavy[weight]++;
                     }
                 }
@@ -1026,7 +1030,7 @@ public final class ThumbBallot {
 
         private void meltAll() {
             for (int cell = 0; cell < CELLS; cell++) {
-                if (canton.depth(cell) > 0 && happens(melts(cell))) {
+                if (canton.marked(cell) && happens(melts(cell))) {
                     if (canton.depth(cell) > 1) {
                         canton.thinMark(cell);
                     } else {
@@ -1060,11 +1064,11 @@ public final class ThumbBallot {
         int leaveThumb(int voter, int column) {
             int height = canton.trait(voter, HEIGHT);
             int row = 0;
-            while (row < height && row < SIDE - 1 && canton.depth(row * SIDE + column) > 0) {
+            while (row < height && row < SIDE - 1 && canton.marked(row * SIDE + column)) {
                 row++;
             }
             int cell = row * SIDE + column;
-            int what = canton.depth(cell) > 0 ? LEFT_OVER : LEFT;
+            int what = canton.marked(cell) ? LEFT_OVER : LEFT;
             int depth = Math.min(1 + canton.trait(voter, PRESS) / 2, 9);
             canton.putMark(cell, voter, canton.trait(voter, MIND), depth);
             canton.setTrait(voter, CAME, canton.trait(voter, CAME) + 1);
@@ -1073,7 +1077,7 @@ public final class ThumbBallot {
         }
 
         void takeAway(int cell, int how) {
-            if (canton.depth(cell) > 0) {
+            if (canton.marked(cell)) {
                 int who = canton.owner(cell);
                 canton.takeMark(cell);
                 note(how, who, cell);
@@ -1444,7 +1448,7 @@ public final class ThumbBallot {
             int greatest = 0;
             int inside = 0;
             for (int i = 0; i < CELLS; i++) {
-                seen[i] = canton.depth(i) > 0 == marked ? 0 : 1;
+                seen[i] = canton.marked(i) == marked ? 0 : 1;
             }
             for (int i = 0; i < CELLS; i++) {
                 if (seen[i] == 0) {
@@ -1501,7 +1505,7 @@ public final class ThumbBallot {
             int side = 0;
             int cell = NONE;
             for (int i = CELLS - 1; i >= 0; i--) {
-                seen[i] = canton.depth(i) > 0 ? 0 : 1 + squareBehind(i);
+                seen[i] = canton.marked(i) ? 0 : 1 + squareBehind(i);
                 // Going down, so that the lowest and first of several comes last.
                 if (seen[i] > 0 && seen[i] >= side) {
                     side = seen[i];

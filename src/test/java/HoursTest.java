@@ -116,6 +116,11 @@ public final class HoursTest {
                 + "on 0 putty at 0 1 7;", 5);
         x.hours(1);
         Due.is("the last mind told", x.of(0, 1), -1);
+        ThumbBallot y = new ThumbBallot();
+        y.voter(0, 1, 3, 0);
+        Due.reads(y, 2, "on 0 mind 0 none;", 1);
+        y.hours(1);
+        Due.is("none", y.of(0, 1), 0);
         Due.is("marks", x.look(1), 3);
         Due.is("book", x.look(7), 3);
         x.set(1, 0, 1);

@@ -16,8 +16,9 @@ public final class ModelTest {
     }
 
     public static void main(String[] args) {
+        int runs = args.length > 0 ? Integer.parseInt(args[0]) : RUNS;
         int wrong = 0;
-        for (long seed = 1; seed <= RUNS && wrong < 20; seed++) {
+        for (long seed = 1; seed <= runs && wrong < 20; seed++) {
             ModelTest t = new ModelTest(seed);
             t.run(seed);
             wrong += t.wrong;

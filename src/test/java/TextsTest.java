@@ -287,6 +287,15 @@ public final class TextsTest {
         Due.faulty(x, 1, "vote r 0 at 0 to 0;", 1, 0);
         Due.faulty(x, 1, "voters 0 at 0 to 0;", 1, 0);
         Due.faulty(x, 1, "v", 1, 0);
+        Due.faulty(x, 1, "voterz 0 at 0 to 0;", 1, 0);
+        Due.faulty(x, 1, "voterZ 0 at 0 to 0;", 1, 0);
+        Due.faulty(x, 1, "voterA 0 at 0 to 0;", 1, 0);
+        Due.faulty(x, 1, "voter{0 at 0 to 0;", 1, 5);
+        Due.faulty(x, 1, "voter[0 at 0 to 0;", 1, 5);
+        Due.faulty(x, 1, "voter`0 at 0 to 0;", 1, 5);
+        Due.faulty(x, 1, "voter@0 at 0 to 0;", 1, 5);
+        Due.faulty(x, 3, "voter 0 twi", 1, 8);
+        Due.faulty(x, 3, "voter 0 twinx", 1, 8);
         Due.faulty(x, 1, "VOTER 0 at 0 to 0;", 1, 0);
     }
 

@@ -169,6 +169,9 @@ public final class ThoughtTest {
             Due.is("can't", x.candles(n[0], n[1]), -1);
         }
         Due.is("bare", x.candle(-1), 0);
+        Due.is("1", x.candle(1), 1);
+        Due.is("0 and 1", x.candles(1, 0), 2);
+        x.candle(-1);
         x.candle(3);
         x.candle(3);
         Due.is("each once", x.candles(100, 0), 3);
@@ -285,6 +288,7 @@ public final class ThoughtTest {
         Due.is("half", x.order(), 20160);
         Due.is("again", x.before(7, 0), 2);
         Due.is("half", x.order(), 20160);
+        Due.is("again", x.order(), 20160);
         Due.is("before", x.before(6, 0), 3);
         Due.is("a third", x.order(), 13440);
         for (int i = 1; i < 6; i++) {
@@ -299,6 +303,8 @@ public final class ThoughtTest {
         x.before(0, 1);
         x.before(1, 0);
         Due.is("no row", x.order(), 0);
+        x.before(-1, 0);
+        Due.is("all again", x.order(), 40320);
     }
 
     private static void game() {

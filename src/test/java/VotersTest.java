@@ -82,6 +82,9 @@ public final class VotersTest {
         }
         Due.yes("heat", x.set(4, -77, 9));
         Due.is("heat", x.look(2), 9);
+        Due.yes("heat", x.set(4, 0, 0));
+        Due.is("heat", x.look(2), 0);
+        Due.yes("heat", x.set(4, 20, 9));
         Due.no("heat", x.set(4, 0, 10));
         Due.no("heat", x.set(4, 0, -1));
         Due.is("heat", x.look(2), 9);

@@ -225,6 +225,24 @@ public final class WaxTest {
         put(y, 0, 1, 0);
         put(y, 0, 0, 1);
         Due.is("a corner comes to the edge", y.wax(4), 0);
+        int[][] nooks = {{0, 4, 0, 6, 1, 5}, {11, 4, 11, 6, 10, 5}, {4, 0, 6, 0, 5, 1}, {4, 11, 6, 11, 5, 10}};
+        for (int[] n : nooks) {
+            ThumbBallot z = two();
+            for (int i = 0; i < 6; i += 2) {
+                put(z, 1, n[i], n[i + 1]);
+            }
+            Due.is("a nook at the edge", z.wax(4), 0);
+        }
+        // just inside of the edges a hole is one
+        int[][] inside = {{1, 5}, {10, 5}, {5, 1}, {5, 10}};
+        for (int[] c : inside) {
+            ThumbBallot z = two();
+            put(z, 1, c[0] - 1, c[1]);
+            put(z, 1, c[0] + 1, c[1]);
+            put(z, 1, c[0], c[1] - 1);
+            put(z, 1, c[0], c[1] + 1);
+            Due.is("a hole beside the edge", z.wax(4), 1);
+        }
     }
 
     private static void face() {
@@ -245,6 +263,9 @@ public final class WaxTest {
         put(x, 1, 2, 11);
         Due.is("not", x.wax(5), 0);
         Due.is("in two", x.wax(6), 2);
+        put(x, 1, 0, 0);
+        put(x, 1, 11, 4);
+        Due.is("in the lowest and the highest row", x.wax(6), 4);
     }
 
     private static void square(ThumbBallot x, int side, int row, int column) {
