@@ -799,13 +799,16 @@ public final class ThumbBallot {
         }
 
         void keep(Canton now) {
+            if (next < 0 || next >= STEPS) {
+                return;
+            }
             ring[next].takeOver(now);
             next = next + 1 < STEPS ? next + 1 : 0;
             count = Math.min(count + 1, STEPS);
         }
 
         boolean goBack(Canton now) {
-            if (count == 0) {
+            if (count == 0 || next < 0 || next >= STEPS) {
                 return false;
             }
             next = next > 0 ? next - 1 : STEPS - 1;
@@ -1730,7 +1733,10 @@ public final class ThumbBallot {
         int rowsOfAll(Told pairs) {
             Arrays.fill(second, 0);
             for (int i = 0; i < pairs.count; i++) {
-                second[pairs.item(i) % PAIR] |= 1 << pairs.item(i) / PAIR;
+                int behind = pairs.item(i) % PAIR;
+                if (behind >= 0 && behind < BILLS) {
+                    second[behind] |= 1 << pairs.item(i) / PAIR;
+                }
             }
             Arrays.fill(first, 0);
             first[0] = 1;

@@ -2,17 +2,25 @@ import java.nio.charset.StandardCharsets;
 
 /** Counts answers that are not as due, and tells texts to a ballot. */
 final class Due {
+    private static final int MULTIPLIER = 1664525;
+    private static final int ADDEND = 1013904223;
     private static int wrong = 0;
     private static int asked = 0;
+    private static String sentence = "";
 
     private Due() {
+    }
+
+    /** The sentence of the document that the following calls are about. */
+    static void says(String said) {
+        sentence = "'" + said + "': ";
     }
 
     static void is(String call, long got, long want) {
         asked++;
         if (got != want) {
             wrong++;
-            System.out.println(call + " answered " + got + ", due is " + want);
+            System.out.println(sentence + call + " answered " + got + ", due is " + want);
         }
     }
 
@@ -26,6 +34,55 @@ final class Due {
 
     static void no(String call, boolean got) {
         is(call, got, false);
+    }
+
+    /** All that is seen of a ballot without telling it anything: some 70 calls. */
+    static int[] seen(ThumbBallot x) {
+        int[] seen = new int[57];
+        int n = 0;
+        for (int what = 0; what <= 13; what++) {
+            seen[n++] = x.look(what);
+        }
+        for (int what = 0; what <= 9; what++) {
+            seen[n++] = x.wax(what);
+        }
+        for (int what = 0; what <= 7; what++) {
+            seen[n++] = x.of(0, what);
+            seen[n++] = x.of(1, what);
+        }
+        for (int column = 0; column < 12; column++) {
+            seen[n++] = x.cell(0, column, 0) * 100 + x.cell(0, column, 2);
+        }
+        int last = x.look(7) - 1;
+        for (int what = 0; what < 5; what++) {
+            seen[n++] = x.book(last, what);
+        }
+        return seen;
+    }
+
+    static void same(String call, int[] is, int[] was) {
+        for (int i = 0; i < was.length; i++) {
+            is(call + " leaves all as it was, " + i, is[i], was[i]);
+        }
+    }
+
+    /** The state behind one draw. */
+    static int drawn(int state) {
+        return (int) ((long) MULTIPLIER * state + ADDEND);
+    }
+
+    /** What a draw of 1000 answers if the state is that behind it. */
+    static int ofThousand(int state) {
+        return (int) (Integer.toUnsignedLong(state) / 256 % 1000);
+    }
+
+    /** The state whose next draw makes it this one. */
+    static int ahead(int state) {
+        int inverse = 1;
+        for (int i = 0; i < 6; i++) {
+            inverse *= 2 - MULTIPLIER * inverse;
+        }
+        return (state - ADDEND) * inverse;
     }
 
     static void finish() {
