@@ -43,6 +43,7 @@ public final class CallsTest {
         undo();
         image();
         look();
+        askingChangesNothing();
         Due.finish();
     }
 
@@ -749,5 +750,40 @@ public final class CallsTest {
         for (int what = 0; what <= 13; what++) {
             Due.is("look " + what, x.look(what), due[what]);
         }
+    }
+
+    private static void askingChangesNothing() {
+        Due.says("IN THOUGHT (nothing of it stays): asking changes nothing");
+        ThumbBallot x = busy();
+        x.party(9);
+        x.house(1);
+        x.stands(4);
+        int[] was = Due.seen(x);
+        for (int i = -1; i <= 3; i++) {
+            x.of(i, 6);
+            x.cell(0, i, 3);
+            x.cell(0, i, 4);
+            x.book(i, 0);
+            x.goes(20 * i, 2);
+            x.whose(i, i);
+            x.could(i);
+            x.seats(10, 0, i);
+            x.parishes(i, 0);
+            x.middle(i);
+            x.candles(i, 0);
+            x.stack();
+            x.lantern(i, 0);
+            x.bills(i);
+            x.order();
+            x.game(i, 1);
+            x.look(i);
+            x.fault(i);
+        }
+        Due.same("asking", Due.seen(x), was);
+        Due.is("parties", x.party(1), 2);
+        Due.is("houses", x.house(1), 2);
+        Due.is("heights", x.stands(1), 2);
+        Due.is("wishes", x.wish(1), 1);
+        Due.is("the TAPE", x.feed(0, 0, 0, 0, 0), 20);
     }
 }
