@@ -296,6 +296,20 @@ public final class CallsTest {
         Due.feed(x, "comes 45;melts 6;");
         Due.yes("0", x.end(0));
         Due.is("text", x.text(0), 0);
+        // what stood behind the cut is not read: a word, a number, a line cut in two
+        String[] texts = {"comesmelts 1;", "comes 12345;", "comes 1;melts 2;", "comes 1;;"};
+        int[] cuts = {5, 9, 13, 8};
+        for (int i = 0; i < texts.length; i++) {
+            ThumbBallot y = new ThumbBallot();
+            y.voter(0, 1, 0, 0);
+            Due.feed(y, texts[i]);
+            Due.yes("cut", y.end(cuts[i]));
+            Due.is("text " + texts[i], y.text(0), i == 3 ? 1 : -1);
+            Due.is("fault(0) of " + texts[i], y.fault(0), i == 3 ? 0 : 1);
+            Due.is("fault(1) of " + texts[i], y.fault(1), i == 3 ? -1 : cuts[i]);
+            // nor what an earlier text had there
+            Due.faulty(y, 0, texts[i].substring(0, 5), 1, 5);
+        }
     }
 
     private static void text() {

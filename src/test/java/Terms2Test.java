@@ -25,6 +25,7 @@ public final class Terms2Test {
         keywordsOfThatText();
         digitsTogether();
         signs();
+        everyByte();
         blanks();
         intsWrap();
         partsTowardsZero();
@@ -437,6 +438,37 @@ public final class Terms2Test {
         }
     }
 
+    /** Every byte where a number, a line or a voter is due: none of them is taken for a token that it is not. */
+    private static void everyByte() {
+        Due.says("TOKENS: every byte, where a NUMBER is due, or a line or the end");
+        for (int c = 0; c < 256; c++) {
+            boolean blank = c == 32 || c == 10;
+            boolean digit = c >= '0' && c <= '9';
+            String number = "comes " + (char) c + ";";
+            String line = "comes 1;" + (char) c;
+            String voter = "voter " + (char) c + " at 0 to 0;";
+            if (digit) {
+                fine(0, number, 1);
+            } else {
+                fault(0, number, 1, blank ? 7 : 6);
+            }
+            if (blank) {
+                fine(0, line, 1);
+                fine(0, "" + (char) c, 0);
+            } else {
+                fault(0, line, 1, 8);
+                fault(0, "" + (char) c, 1, 0);
+            }
+            if (c >= '0' && c <= '2') {
+                fine(1, voter, 1);
+            } else if (digit) {
+                fault(1, voter, 2, 6);
+            } else {
+                fault(1, voter, 1, blank ? 8 : 6);
+            }
+        }
+    }
+
     private static void blanks() {
         Due.says("Blanks (32, 10) between");
         fine(1, " \n voter\n0   at\n\n0 to 0 \n; \n", 1);
@@ -487,6 +519,11 @@ public final class Terms2Test {
         String long400 = "comes 1" + " ".repeat(393);
         fault(0, long400, 1, 400);
         fine(0, "comes 1" + " ".repeat(392) + ";", 1);
+        // all 400 bytes are there, and the last is a letter, a digit, a sign
+        fault(0, " ".repeat(395) + "comes", 1, 400);
+        fault(0, " ".repeat(393) + "comes 1", 1, 400);
+        fault(0, " ".repeat(392) + "comes 1+", 1, 400);
+        fault(0, " ".repeat(396) + "come", 1, 396);
     }
 
     private static void partByZero() {

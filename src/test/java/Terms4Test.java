@@ -39,6 +39,7 @@ public final class Terms4Test {
         imageMoreThanOnce();
         imageBook();
         imageThought();
+        imageFull();
         Due.finish();
     }
 
@@ -995,6 +996,47 @@ public final class Terms4Test {
         x.hours(12);
         Due.yes("the later one", x.image(false));
         Due.is("MARKS", x.look(1), 2);
+    }
+
+    private static void imageFull() {
+        Due.says("THE IMAGE: all that was told, up to as many as can be");
+        ThumbBallot x = new ThumbBallot();
+        for (int i = 0; i < 20; i++) {
+            x.voter(i, 1, 11, 0);
+        }
+        int[] room = {6, 16, 15, 15, 8, 8, 12, 12, 12};
+        for (int list = 0; list < room.length; list++) {
+            for (int i = 0; i < room[list]; i++) {
+                Due.is("how many", tell(x, list, 1), i + 1);
+            }
+        }
+        Due.yes("taken", x.image(true));
+        for (int list = 0; list < room.length; list++) {
+            Due.is("none is then", tell(x, list, -1), 0);
+        }
+        Due.yes("gone back", x.image(false));
+        for (int list = 0; list < room.length; list++) {
+            Due.is("full again", tell(x, list, 1), -1);
+        }
+        Due.is("VOTERS", x.voter(0, 0, 0, 0), -1);
+        Due.is("the last party", x.seats(6, 0, 5), 1);
+        Due.is("the last house", x.parishes(8, 1), 8);
+        Due.is("all names", x.middle(3), 15);
+        Due.is("all candles", x.candles(400, 1), 8);
+    }
+
+    private static int tell(ThumbBallot x, int list, int v) {
+        return switch (list) {
+            case 0 -> x.party(v);
+            case 1 -> x.house(v);
+            case 2 -> x.wish(v);
+            case 3 -> x.name(v);
+            case 4 -> x.candle(v);
+            case 5 -> x.door(v, 1);
+            case 6 -> x.stands(v);
+            case 7 -> x.bill(v, 2);
+            default -> x.before(v, 2);
+        };
     }
 
     /** What is undone and written anew does not reach the image. */
